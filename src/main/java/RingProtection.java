@@ -325,6 +325,10 @@ public final class RingProtection {
             || value == FORCED_SPAN || value == FORCED_RING || value == LOCKOUT;
     }
 
+    private static boolean isDelivery(int found) {
+        return found == UNDISTURBED || found == SPAN_PROTECTED || found == RING_PROTECTED;
+    }
+
     private static boolean contains(int set, int number) {
         return (set & (1 << number)) != 0;
     }
@@ -486,6 +490,7 @@ public final class RingProtection {
         private int failedWorking;
         private int failedProtection;
         private int failedNodes;
+        // The rows have room for the largest ring, so every span of every ring has its place.
         private final int[] commands = new int[MAX_NODES];
         private final int[] timers = new int[MAX_NODES];
         private final int[] heldRequests = new int[MAX_NODES];
@@ -530,11 +535,11 @@ public final class RingProtection {
             return contains(spanSwitched, span) ? SPAN_SWITCH : NO_SWITCH;
         }
 
-        int spansInSegmentOf(int node) {
-            int own = segmentOf(node);
+        int spansInside(int segment) {
             int inside = 0;
             for (int span = 0; span < shape.nodes; span++) {
-                if (segmentOf(span) == own && segmentOf(shape.nodeAfter(span)) == own) {
+                int next = shape.nodeAfter(span);
+                if (segments[span] == segment && segments[next] == segment) {
                     inside |= 1 << span;
                 }
             }
@@ -754,17 +759,17 @@ public final class RingProtection {
 
         private int stateOfNormal(int circuit) {
             int path = circuits.pathOf(circuit);
-            int first = circuits.firstEndOf(circuit);
-            int second = circuits.secondEndOf(circuit);
+            int ownSegment = controller.segmentOf(circuits.firstEndOf(circuit));
+            int otherSegment = controller.segmentOf(circuits.secondEndOf(circuit));
             boolean ringSwitched = (path & controller.ringSwitched) != 0;
-            if (ringSwitched && controller.segmentOf(first) != controller.segmentOf(second)) {
+            if (ringSwitched && ownSegment != otherSegment) {
                 return SQUELCHED;
             }
             int unprotected = path & controller.workingDown
                 & ~controller.spanSwitched & ~controller.ringSwitched;
             if (ringSwitched) {
                 // What lies beyond the switches is gone around, so it can do no harm.
-                unprotected &= controller.spansInSegmentOf(first);
+                unprotected &= controller.spansInside(ownSegment);
             }
             if (unprotected != 0) {
                 return LOST;
@@ -773,14 +778,6 @@ public final class RingProtection {
                 return RING_PROTECTED;
             }
             return (path & controller.spanSwitched) != 0 ? SPAN_PROTECTED : UNDISTURBED;
-        }
-
-        private boolean isDelivered(int circuit) {
-            if (!circuits.has(circuit)) {
-                return false;
-            }
-            int found = stateOf(circuit);
-            return found == UNDISTURBED || found == SPAN_PROTECTED || found == RING_PROTECTED;
         }
 
         int allInState(int wanted) {
@@ -796,7 +793,7 @@ public final class RingProtection {
         int countDelivered() {
             int count = 0;
             for (int circuit = 0; circuit < MAX_CIRCUITS; circuit++) {
-                if (isDelivered(circuit)) {
+                if (circuits.has(circuit) && isDelivery(stateOf(circuit))) {
                     count++;
                 }
             }
@@ -804,23 +801,25 @@ public final class RingProtection {
         }
 
         int hopsOf(int circuit) {
-            if (!isDelivered(circuit)) {
+            int found = stateOf(circuit);
+            if (!isDelivery(found)) {
                 return NONE;
             }
             int path = circuits.pathOf(circuit);
-            if (stateOf(circuit) != RING_PROTECTED) {
+            if (found != RING_PROTECTED) {
                 return Integer.bitCount(path);
             }
-            int open = controller.spansInSegmentOf(circuits.firstEndOf(circuit))
-                & ~controller.ringSwitched;
+            int ownSegment = controller.segmentOf(circuits.firstEndOf(circuit));
+            int open = controller.spansInside(ownSegment) & ~controller.ringSwitched;
             return Integer.bitCount(path & open) + Integer.bitCount(open);
         }
 
         int sumOfHops() {
             int sum = 0;
             for (int circuit = 0; circuit < MAX_CIRCUITS; circuit++) {
-                if (isDelivered(circuit)) {
-                    sum += hopsOf(circuit);
+                int found = circuits.has(circuit) ? hopsOf(circuit) : NONE;
+                if (found != NONE) {
+                    sum += found;
                 }
             }
             return sum;

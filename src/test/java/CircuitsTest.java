@@ -98,6 +98,7 @@ public final class CircuitsTest {
         due.is(2, "timer before the reset", ring.restoreTimer(1), 5);
         ring.reset(4, 2);
         due.is(2, "timer after the reset", ring.restoreTimer(1), 0);
+        due.is(2, "switch after the reset", ring.switchOf(1), RingProtection.NO_SWITCH);
     }
 
     private static void resetKeeps() {

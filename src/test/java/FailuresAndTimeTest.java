@@ -82,6 +82,14 @@ public final class FailuresAndTimeTest {
         ring.failNode(3, false);
         due.is(11, "span 2 is still down by its mark", ring.request(2), RingProtection.FAIL_SPAN);
         due.is(11, "the mark outlived the node", ring.failWorking(2, false), 1);
+
+        ring.reset(8, 1);
+        ring.failNode(1, true);
+        ring.failNode(4, true);
+        int[] requests = {6, 6, 0, 6, 6, 0, 0, 0};
+        for (int span = 0; span < 8; span++) {
+            due.is(11, "two nodes down, span " + span, ring.request(span), requests[span]);
+        }
     }
 
     private static void command() {

@@ -9,6 +9,8 @@ public final class PlanningTest {
         besideCut();
         besideForcedSpan();
         besideWait();
+        besideFailedNode();
+        worstOfShortCircuits();
         noCircuits();
         planningChangesNothing();
         due.end();
@@ -97,6 +99,24 @@ public final class PlanningTest {
         due.is(26, "still now", ring.deliveredCount(), 2);
         ring.command(4, RingProtection.LOCKOUT);
         cutsLeave("wait and lockout", ring, 1, 1, 2, 1, 2);
+    }
+
+    private static void besideFailedNode() {
+        RingProtection ring = ring();
+        ring.failNode(1, true);
+        nodesLeave("node 1 down", ring, 1, 2, 1, 0, 0);
+        cutsLeave("node 1 down", ring, 2, 2, 1, 0, 1);
+        due.is(28, "node 1 down", ring.worstCut(), 3);
+    }
+
+    private static void worstOfShortCircuits() {
+        for (int span = 0; span < 8; span++) {
+            RingProtection ring = new RingProtection();
+            ring.reset(8, 1);
+            ring.addCircuit(span, (span + 1) % 8, true, 0, false);
+            ring.command((span + 3) % 8, RingProtection.LOCKOUT);
+            due.is(28, "a circuit over span " + span, ring.worstCut(), span);
+        }
     }
 
     private static void noCircuits() {

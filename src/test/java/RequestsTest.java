@@ -131,6 +131,12 @@ public final class RequestsTest {
         due.is(17, "manual ring", ring.switchOf(0), RING);
         ring.command(1, RingProtection.LOCKOUT);
         due.is(17, "manual ring, locked out", ring.switchOf(0), NO);
+        for (int span = 0; span < 5; span++) {
+            ring.reset(6, 1);
+            ring.command(5, RingProtection.FORCED_RING);
+            ring.command(span, RingProtection.LOCKOUT);
+            due.is(17, "lockout on span " + span, ring.switchOf(5), NO);
+        }
     }
 
     private static void lockoutLetsSpanSwitchesBe() {

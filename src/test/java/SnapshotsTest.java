@@ -6,6 +6,8 @@ public final class SnapshotsTest {
         wrongSlots();
         saveAnswers();
         everythingComesBack();
+        ringSwitchesComeBack();
+        lostProtectionComesBack();
         runningWaitComesBack();
         waitBeginsAfterRestore();
         snapshotStays();
@@ -93,6 +95,42 @@ public final class SnapshotsTest {
         }
         due.is(30, "restore time", ring.setRestoreTime(1), 9);
         due.is(30, "nodes", ring.reset(4, 1), 7);
+    }
+
+    private static void ringSwitchesComeBack() {
+        RingProtection ring = new RingProtection();
+        ring.addCircuit(0, 2, true, 0, false);
+        ring.failNode(1, true);
+        ring.failNode(2, true);
+        ring.save(0);
+        ring.reset(4, 1);
+        ring.restore(0);
+        int[] switches = {2, 2, 2, 0};
+        int[] segments = {0, 1, 2, 0};
+        for (int i = 0; i < 4; i++) {
+            due.is(30, "switchOf " + i, ring.switchOf(i), switches[i]);
+            due.is(30, "segment " + i, ring.segment(i), segments[i]);
+        }
+        due.is(30, "state", ring.state(0), RingProtection.SQUELCHED);
+        due.is(30, "squelchedAt", ring.squelchedAt(1), 1);
+    }
+
+    private static void lostProtectionComesBack() {
+        RingProtection ring = new RingProtection();
+        ring.addCircuit(0, 1, true, 0, true);
+        ring.addCircuit(0, 1, true, 0, false);
+        ring.addCircuit(1, 2, true, 0, true);
+        ring.addCircuit(1, 2, true, 0, false);
+        ring.failProtection(0, true);
+        ring.failWorking(1, true);
+        ring.command(1, RingProtection.LOCKOUT);
+        ring.save(0);
+        ring.reset(4, 1);
+        ring.restore(0);
+        due.is(30, "protection down, extra", ring.state(0), RingProtection.LOST);
+        due.is(30, "protection down, normal", ring.state(1), RingProtection.UNDISTURBED);
+        due.is(30, "working down, extra", ring.state(2), RingProtection.UNDISTURBED);
+        due.is(30, "working down, normal", ring.state(3), RingProtection.LOST);
     }
 
     private static void runningWaitComesBack() {

@@ -310,6 +310,10 @@ public final class StatesTest {
         ring.addCircuit(0, 3, true, 0, false);
         cut(ring, 0, 2);
         due.is(23, "both cuts at the ends", ring.hops(0), 3);
+        ring.reset(6, 4);
+        ring.addCircuit(5, 3, true, 0, false);
+        cut(ring, 5, 1);
+        due.is(23, "span 0 lies beyond the cuts", ring.hops(0), 4);
         ring.reset(3, 1);
         ring.addCircuit(0, 1, true, 0, false);
         ring.failNode(2, true);
