@@ -45,8 +45,13 @@ final class BoundaryFailuresTest implements Doc {
         ring.failNode(0, true);
         Cases.is("unmark", ring.failWorking(3, false), 0);
         Cases.is("mark", ring.failWorking(3, true), 0);
-        Cases.is("the neighbours", ring.failWorking(2, true), 0);
-        Cases.is("the neighbours", ring.failWorking(0, true), 0);
+        Cases.is("a neighbour", ring.failWorking(2, true), 0);
+        Cases.is("the other neighbour", ring.failWorking(0, true), 0);
+        ring.failWorking(3, false);
+        Cases.is("the protection mark stays", ring.failProtection(3, false), 1);
+        Cases.is("the mark of node 3 stays", ring.failNode(3, false), 1);
+        Cases.is("the mark of node 0 stays", ring.failNode(0, false), 1);
+        Cases.is("the mark of span 2 stays", ring.failWorking(2, false), 1);
     }
 
     // "A call that returns an error changes nothing."
@@ -121,8 +126,13 @@ final class BoundaryFailuresTest implements Doc {
         ring.failNode(1, true);
         Cases.is("unmark", ring.failProtection(0, false), 0);
         Cases.is("mark", ring.failProtection(0, true), 0);
-        Cases.is("the neighbours", ring.failProtection(1, true), 0);
-        Cases.is("the neighbours", ring.failProtection(3, true), 0);
+        Cases.is("a neighbour", ring.failProtection(1, true), 0);
+        Cases.is("the other neighbour", ring.failProtection(3, true), 0);
+        ring.failProtection(0, false);
+        Cases.is("the working mark stays", ring.failWorking(0, false), 1);
+        Cases.is("the mark of node 0 stays", ring.failNode(0, false), 1);
+        Cases.is("the mark of node 1 stays", ring.failNode(1, false), 1);
+        Cases.is("the mark of span 1 stays", ring.failProtection(1, false), 1);
     }
 
     // "A call that returns an error changes nothing."
@@ -191,8 +201,12 @@ final class BoundaryFailuresTest implements Doc {
         RingProtection ring = new RingProtection();
         Cases.cut(ring, 0, 3);
         Cases.is("between two cuts", ring.failNode(0, true), 0);
-        Cases.is("the neighbours", ring.failNode(1, true), 0);
-        Cases.is("the neighbours", ring.failNode(3, true), 0);
+        Cases.is("a neighbour", ring.failNode(1, true), 0);
+        Cases.is("the other neighbour", ring.failNode(3, true), 0);
+        ring.failNode(0, false);
+        Cases.is("the working mark of span 0 stays", ring.failWorking(0, false), 1);
+        Cases.is("the protection mark of span 3 stays", ring.failProtection(3, false), 1);
+        Cases.is("the mark of node 1 stays", ring.failNode(1, false), 1);
     }
 
     // "Span i connects node i and node (i + 1) mod n": the two spans of each node, with wrap-around

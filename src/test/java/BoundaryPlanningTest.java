@@ -123,9 +123,9 @@ final class BoundaryPlanningTest implements Doc {
 
     // "if a node were marked as failed": one that is so already
     static void promise27AlreadyFailed() {
-        RingProtection ring = Cases.ringOf(8, 1);
+        RingProtection ring = Cases.ringOf(8, 2);
         ring.addCircuit(7, 2, true, 0, false);
-        ring.addCircuit(0, 7, true, 0, true);
+        ring.addCircuit(0, 2, true, 1, false);
         ring.failNode(0, true);
         Cases.is("now", ring.deliveredCount(), 1);
         Cases.is("the same node", ring.deliveredIfNodeFails(0), 1);
@@ -168,7 +168,9 @@ final class BoundaryPlanningTest implements Doc {
             RingProtection ring = Cases.ringOf(nodes, 1);
             Cases.is("no circuits, " + nodes, ring.worstCut(), 0);
             ring.addCircuit(nodes - 1, 0, true, 0, false);
-            Cases.is("one circuit, " + nodes, ring.worstCut(), 0);
+            Cases.is("one that every cut leaves, " + nodes, ring.worstCut(), 0);
+            ring.addCircuit(nodes - 1, 0, true, 0, true);
+            Cases.is("one that every cut preempts, " + nodes, ring.worstCut(), 0);
         }
     }
 

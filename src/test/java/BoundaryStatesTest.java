@@ -128,21 +128,24 @@ final class BoundaryStatesTest implements Doc {
     }
 
     // "(when a span of the path has RING_SWITCH) both nodes of that span are in the segment of the
-    // ends": a span down within it, and one beyond the switches
+    // ends": a span down within it, and one beyond the switches, at each place of the ring
     static void promise20LostInTheSegmentOfTheEnds() {
-        RingProtection ring = Cases.ringOf(8, 1);
-        ring.addCircuit(7, 5, true, 0, false);
-        Cases.cut(ring, 0, 3);
-        Cases.is("switched", ring.state(0), RING_PROTECTED);
-        ring.failWorking(1, true);
-        ring.failWorking(2, true);
-        Cases.is("down beyond the switches", ring.state(0), RING_PROTECTED);
-        ring.failWorking(7, true);
-        Cases.is("down before the first switch", ring.state(0), LOST);
-        ring.failWorking(7, false);
-        Cases.is("up again", ring.state(0), RING_PROTECTED);
-        ring.failWorking(4, true);
-        Cases.is("down behind the last switch", ring.state(0), LOST);
+        for (int turn = 0; turn < 8; turn++) {
+            String at = ", turned by " + turn;
+            RingProtection ring = Cases.ringOf(8, 1);
+            ring.addCircuit((7 + turn) % 8, (5 + turn) % 8, true, 0, false);
+            Cases.cut(ring, turn, (3 + turn) % 8);
+            Cases.is("switched" + at, ring.state(0), RING_PROTECTED);
+            ring.failWorking((1 + turn) % 8, true);
+            ring.failWorking((2 + turn) % 8, true);
+            Cases.is("down beyond the switches" + at, ring.state(0), RING_PROTECTED);
+            ring.failWorking((7 + turn) % 8, true);
+            Cases.is("down before the first switch" + at, ring.state(0), LOST);
+            ring.failWorking((7 + turn) % 8, false);
+            Cases.is("up again" + at, ring.state(0), RING_PROTECTED);
+            ring.failWorking((4 + turn) % 8, true);
+            Cases.is("down behind the last switch" + at, ring.state(0), LOST);
+        }
     }
 
     // the same: with one switch alone every span is in the segment of the ends
@@ -416,13 +419,15 @@ final class BoundaryStatesTest implements Doc {
         }
     }
 
-    // the same: two switches on the path, a segment over the last span, a segment of one span
+    // the same: two switches on the path, at each place of the ring, and a segment of one span
     static void promise23TwoRingSwitches() {
-        RingProtection ring = Cases.ringOf(8, 1);
-        ring.addCircuit(6, 4, true, 0, false);
-        Cases.cut(ring, 0, 3);
-        Cases.is("spans 6 and 7, then 4 to 7", ring.hops(0), 2 + 4);
-        ring = Cases.ringOf(3, 1);
+        for (int turn = 0; turn < 8; turn++) {
+            RingProtection ring = Cases.ringOf(8, 1);
+            ring.addCircuit((6 + turn) % 8, (4 + turn) % 8, true, 0, false);
+            Cases.cut(ring, turn, (3 + turn) % 8);
+            Cases.is("2 spans there, 4 around, turned by " + turn, ring.hops(0), 2 + 4);
+        }
+        RingProtection ring = Cases.ringOf(3, 1);
         ring.addCircuit(0, 1, false, 0, false);
         ring.failNode(2, true);
         Cases.is("span 0 alone is left", ring.hops(0), 1);

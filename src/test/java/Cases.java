@@ -145,6 +145,13 @@ final class Cases implements Doc {
                     twin.freeSlot(i, (i + 1) % 8, true, kind == 0));
             }
         }
+        for (int slot = 0; slot <= 4; slot++) {
+            for (int kind = 0; kind < 2; kind++) {
+                is(what + ": addCircuit in slot " + slot,
+                    ring.addCircuit(0, 1, true, slot, kind == 0),
+                    twin.addCircuit(0, 1, true, slot, kind == 0));
+            }
+        }
         is(what + ": advance", ring.advance(1), twin.advance(1));
         for (int i = 0; i < 8; i++) {
             is(what + ": command " + i, ring.command(i, 0), twin.command(i, 0));
