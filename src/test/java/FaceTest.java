@@ -115,8 +115,18 @@ public final class FaceTest {
             }
             for (Method method : one.getDeclaredMethods()) {
                 holds(method + " has at most seven parameters", method.getParameterCount() <= 7);
+                holds(method + " has a name that is none of the face",
+                    !namesOfTheFace().contains(method.getName()));
             }
         }
+    }
+
+    private static Set<String> namesOfTheFace() {
+        Set<String> names = new TreeSet<>();
+        for (String method : METHODS) {
+            names.add(method.split(" ")[0]);
+        }
+        return names;
     }
 
     private static void theSource() throws IOException {
